@@ -35,8 +35,8 @@ public final class HintForge {
 
   private final Font font = new Font();
   private final Font copy = new Font();
-  private final Outline outline = new Outline();
-  private final Machine machine = new Machine(outline, font);
+  private final Machine machine = new Machine();
+  private final Outline outline = machine.outline;
   private final Canvas canvas = new Canvas();
   private final Cache cache = new Cache();
   private final Archive archive = new Archive();
@@ -518,8 +518,12 @@ public final class HintForge {
     }
   }
 
+  /** Puts the points of a glyph into the outline, hinted ones if they are meant and hinted. */
   private void shape(Font source, int glyph, boolean isHinted) {
-    outline.build(source, glyph, axes, size);
+    outline.clear();
+    source.countContourPoints();
+    Outline.collect(outline, source, glyph, axes, 0);
+    outline.finish(source.glyphs[glyph].variedAdvance(axes), size);
     Program program = source.glyphs[glyph].program;
     if (isHinted && isHinting && program.count > 0) {
       machine.run(source, program, size);
@@ -527,7 +531,7 @@ public final class HintForge {
   }
 
   private void runProgram(int glyph) {
-    outline.build(font, glyph, axes, size);
+    shape(font, glyph, false);
     machine.run(font, font.glyphs[glyph].program, size);
   }
 
@@ -982,14 +986,15 @@ public final class HintForge {
     final int[] contourStarts = new int[MOST_POINTS + 1];
     int contourCount = 0;
 
-    void build(Font font, int number, int[] axes, int size) {
+    void clear() {
       zone.count = 0;
       contourCount = 0;
-      font.countContourPoints();
-      collect(this, font, number, axes, 0);
+    }
+
+    void finish(int advanceUnits, int size) {
       contourStarts[contourCount] = zone.count;
       zone.append(0, 0);
-      zone.append(font.glyphs[number].variedAdvance(axes), 0);
+      zone.append(advanceUnits, 0);
       for (int i = 0; i < zone.count; i++) {
         zone.firstX[i] = scaled(zone.firstX[i], size);
         zone.firstY[i] = scaled(zone.firstY[i], size);
@@ -1059,36 +1064,30 @@ public final class HintForge {
     // A move by more than this leaves the coordinates in any case, and would leave the longs.
     private static final long FARTHEST_MOVE = 1000000000000L;
 
-    private final Outline outline;
+    final Outline outline = new Outline();
     private final int[] stack = new int[MOST_ON_STACK];
     private int height = 0;
     private final int[] storage = new int[STORAGE];
     private final int[] table = new int[MOST_NUMBERS];
+    private int tableCount = 0;
     private final int[] references = new int[3];
     private final Zone still = new Zone(STILL_POINTS);
-    private Zone zone;
+    private Zone zone = outline.zone;
     private int measuring = 0;
     private int moving = 0;
     private int rounding = 0;
-    private Font font;
+    private Font font = null;
     private int presentSize = 0;
     private final Program[] rows = new Program[MOST_CALLS + 1];
     private final int[] places = new int[MOST_CALLS + 1];
     private int calls = 0;
-    private boolean isRunning = false;
     char failure = NO_FAULT;
     boolean isBeyondInts = false;
     int stepCount = 0;
 
-    Machine(Outline outline, Font font) {
-      this.outline = outline;
-      this.font = font;
-      zone = outline.zone;
-    }
-
     void run(Font source, Program program, int size) {
       begin(source, program, size);
-      for (int turn = 0; turn < MOST_TURNS && isRunning && failure == NO_FAULT; turn++) {
+      for (int turn = 0; turn < MOST_TURNS && calls >= 0 && failure == NO_FAULT; turn++) {
         Program row = rows[calls];
         int place = places[calls];
         if (row == null || place < 0 || place >= row.count) {
@@ -1118,7 +1117,8 @@ public final class HintForge {
       presentSize = size;
       height = 0;
       Arrays.fill(storage, 0);
-      for (int i = 0; i < source.numberCount; i++) {
+      tableCount = source.numberCount;
+      for (int i = 0; i < tableCount; i++) {
         table[i] = scaled(source.numbers[i], size);
       }
       Arrays.fill(references, 0);
@@ -1134,7 +1134,6 @@ public final class HintForge {
       rows[0] = program;
       places[0] = 0;
       calls = 0;
-      isRunning = true;
       failure = NO_FAULT;
       isBeyondInts = false;
       stepCount = 0;
@@ -1161,7 +1160,7 @@ public final class HintForge {
           writeTable();
           break;
         case 'v':
-          push(table[popBelow(font.numberCount)]);
+          push(table[popBelow(tableCount)]);
           break;
         case 's':
           store();
@@ -1328,7 +1327,7 @@ public final class HintForge {
 
     private void writeTable() {
       int number = pop();
-      int place = popBelow(font.numberCount);
+      int place = popBelow(tableCount);
       if (failure == NO_FAULT) {
         table[place] = number;
       }
@@ -1360,7 +1359,7 @@ public final class HintForge {
     }
 
     private void callFunction(int function) {
-      if (function < 0 || function >= font.functionCount) {
+      if (font == null || function < 0 || function >= font.functionCount) {
         failure = 'r';
       } else if (calls >= MOST_CALLS) {
         failure = 'b';
@@ -1371,12 +1370,9 @@ public final class HintForge {
       }
     }
 
+    /** Ends a function, or, without a call that stands open, the program. */
     private void comeBack() {
-      if (calls == 0) {
-        isRunning = false;
-      } else {
-        calls--;
-      }
+      calls--;
     }
 
     private long measure(int x, int y) {
@@ -1500,7 +1496,7 @@ public final class HintForge {
     private void moveToNumber() {
       int place = pop();
       int point = popBelow(zone.count);
-      if (failure == NO_FAULT && (place < 0 || place >= font.numberCount)) {
+      if (failure == NO_FAULT && (place < 0 || place >= tableCount)) {
         failure = 'r';
       }
       if (failure != NO_FAULT) {

@@ -331,6 +331,8 @@ public final class MachineTest {
     Fonts.program(font, 0, "p0 Z p7 p0 i p6 k p6 G p1 Z p0 x H x D");
     // 80 is put to 64 where it was rounded; k moves by what the reference moved: -16.
     Check.same("moved from where it was put", font.pointX(0, 0, true), 24);
+    Fonts.program(font, 0, "p0 Z p7 G p6 G + p1 Z p0 x H x D");
+    Check.same("the zone 0 starts anew", font.pointX(0, 0, true), 40);
     Fonts.program(font, 0, "p0 Z p8 p0 i");
     Check.same("no point 8", font.fault(0), 'r');
     Fonts.program(font, 0, "p0 Z p7 m");

@@ -23,9 +23,9 @@ public final class MetricsTest {
     font.addGlyph(59);
     Check.same("scaled 59", font.advance(1, false), 94);
     Check.same("rounded down", font.advance(1, true), 64);
-    Fonts.program(font, 0, "p1 H p-40 D p0 H p-24 D");
-    // From -24 to 56.
-    Check.same("hinted", font.advance(0, true), 64);
+    Fonts.program(font, 0, "p1 H p-40 D p0 H p-42 D");
+    // From -42 to 56.
+    Check.same("hinted", font.advance(0, true), 128);
     Check.same("scaled still", font.advance(0, false), 96);
     font.setHinting(false);
     Check.same("hinting off", font.advance(0, true), 128);

@@ -169,6 +169,9 @@ public final class VariationTest {
     Check.same("half by 0", weighted(100, 50, 50, 0, 100), 0);
     Check.same("2.5 units", weighted(100, 50, 50, 25, 10), 5);
     Check.same("-2.5 units", weighted(100, 50, 50, 25, -10), -3);
+    Check.same("a peak of 1", weighted(1, 0, 1, 0, 100), 160);
+    Check.same("a peak of -1", weighted(0, -1, 0, -1, 100), 160);
+    Check.same("a peak of -1 on the other side", weighted(0, -1, 0, 1, 100), 0);
     Check.same("thirds are exact", weighted(3, 0, 1, 0, 3), 2);
     Check.same("two thirds of a half", weighted(3, 4, 2, 2, 9), 5);
   }
