@@ -128,27 +128,33 @@ public final class MachineTest {
     Check.same("scaled table", value(font, "p0 v"), 77);
   }
 
-  private static String rounded(int units) {
+  /** A number of 64ths in each of the roundings. */
+  private static String rounded(int number) {
     StringBuilder all = new StringBuilder();
     for (int way = 0; way <= 5; way++) {
-      HintForge font = Fonts.atSize25();
-      Fonts.glyph(font, 100, units, 0);
-      Fonts.program(font, 0, "R" + way + " p0 m");
+      HintForge font = fontWithPointAt0();
+      Fonts.program(font, 0, "p0 H p" + number + " D R" + way + " p0 m");
       all.append(way == 0 ? "" : " ").append(font.pointX(0, 0, true));
     }
     return all.toString();
   }
 
   private static void rounding() {
-    Check.same("40", rounded(25), "64 32 32 64 0 40");
-    Check.same("-40", rounded(-25), "-64 -32 -32 0 -64 -40");
-    Check.same("32", rounded(20), "64 32 32 64 0 32");
-    Check.same("-32", rounded(-20), "0 -32 -32 0 -64 -32");
-    Check.same("64", rounded(40), "64 96 64 64 64 64");
+    Check.same("40", rounded(40), "64 32 32 64 0 40");
+    Check.same("-40", rounded(-40), "-64 -32 -32 0 -64 -40");
+    Check.same("31", rounded(31), "0 32 32 64 0 31");
+    Check.same("32", rounded(32), "64 32 32 64 0 32");
+    Check.same("-32", rounded(-32), "0 -32 -32 0 -64 -32");
+    Check.same("-33", rounded(-33), "-64 -32 -32 0 -64 -33");
+    Check.same("63", rounded(63), "64 32 64 64 0 63");
+    Check.same("64", rounded(64), "64 96 64 64 64 64");
+    Check.same("65", rounded(65), "64 96 64 128 64 65");
     Check.same("0", rounded(0), "0 32 0 0 0 0");
-    Check.same("16", rounded(10), "0 32 32 64 0 16");
-    Check.same("-16", rounded(-10), "0 -32 0 0 -64 -16");
-    Check.same("65", rounded(41), "64 96 64 128 64 66");
+    Check.same("15", rounded(15), "0 32 0 64 0 15");
+    Check.same("16", rounded(16), "0 32 32 64 0 16");
+    Check.same("-16", rounded(-16), "0 -32 0 0 -64 -16");
+    Check.same("-17", rounded(-17), "0 -32 -32 0 -64 -17");
+    Check.same("-64", rounded(-64), "-64 -32 -64 -64 -64 -64");
   }
 
   /** x and y of a point at told units after a program. */
@@ -251,6 +257,9 @@ public final class MachineTest {
     Fonts.program(font, 0, "p0 m p1 r p2 b");
     // 64 + 128; then between 40 and 152, now 64 and 192: 64 + 56 * 128 / 112.
     Check.same("m, r and b", Fonts.x(font, 0), "64 192 128 0 160");
+    Fonts.program(font, 0, "p2 S0 p1 r p0 b");
+    // 152 is 56 from 96, and goes 64 from there; 40 is 56 from 96 on the other side.
+    Check.same("r alone gives the references 1 and 2", Fonts.x(font, 0), "32 160 96 0 160");
     Fonts.program(font, 0, "p2 S0 p1 r p3 k");
     // The reference 0 stays the point 2: it did not move.
     Check.same("r leaves the reference 0", font.pointX(0, 3, true), 0);
@@ -300,6 +309,10 @@ public final class MachineTest {
     Check.same("touched in both, y", Fonts.y(font, 0), "10 90 170 90 16 32 64 480 496 0 0");
     Fonts.program(font, 0, "p0 H p8 D p0 Z p0 I");
     Check.same("I in the zone 0", Fonts.x(font, 0), "8 88 168 328 16 32 48 480 496 0 160");
+    Fonts.program(font, 0, "p0 H p8 D p2 H p24 D p1 M p1 F p1 H p3 D p0 I");
+    Check.same("moved in y, not touched in x", Fonts.x(font, 0), "8 96 184 344 16 32 48 480 496 0 160");
+    Fonts.program(font, 0, "p1 M p1 F p0 H p8 D p2 H p24 D p0 M p0 F p1 H p3 D p1 I");
+    Check.same("moved in x, not touched in y", Fonts.y(font, 0), "8 96 184 96 16 32 64 480 496 0 0");
     Fonts.program(font, 0, "p2 I");
     Check.same("I 2", font.fault(0), 'r');
     Fonts.program(font, 0, "p0 H p0 D p2 H p24 D p0 I");
