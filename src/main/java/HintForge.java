@@ -1425,11 +1425,15 @@ public final class HintForge {
       }
       zone.nowX[point] = (int) x;
       zone.nowY[point] = (int) y;
-      zone.isTouchedX[point] |= moveX != 0;
-      zone.isTouchedY[point] |= moveY != 0;
+      if (moveX != 0) {
+        zone.isTouchedX[point] = true;
+      }
+      if (moveY != 0) {
+        zone.isTouchedY[point] = true;
+      }
     }
 
-    /** Whether no fault stands, which there is if the reference is not in the present zone. */
+    /** Faults if a reference is no point of the present zone; answers whether there is no fault. */
     private boolean hasReference(int reference) {
       int point = references[reference];
       if (failure == NO_FAULT && (point < 0 || point >= zone.count)) {
