@@ -154,11 +154,15 @@ public final class HintForge {
       throws IndexOutOfBoundsException, IllegalArgumentException {
     Glyph changed = requireGlyph(glyph);
     requireIndex(region, changed.regionCount);
-    if (point != ADVANCE_POINT) {
+    // The advance has one delta: dy is of no meaning for it, whatever it is.
+    boolean isOfPoint = point != ADVANCE_POINT;
+    if (isOfPoint) {
       requireIndex(point, changed.pointCount);
     }
     requireWithin(dx, -FARTHEST_DELTA, FARTHEST_DELTA);
-    requireWithin(dy, -FARTHEST_DELTA, FARTHEST_DELTA);
+    if (isOfPoint) {
+      requireWithin(dy, -FARTHEST_DELTA, FARTHEST_DELTA);
+    }
     cache.empty();
     changed.regions[region].tell(point, dx, dy);
     return changed.regions[region].toldCount;

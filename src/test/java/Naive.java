@@ -222,7 +222,7 @@ final class Naive {
     Gl g = at(glyph);
     index(in(region, 0, g.regions.size() - 1));
     index(in(point, -1, g.own.size() - 1));
-    argument(in(dx, -1000, 1000) && in(dy, -1000, 1000));
+    argument(in(dx, -1000, 1000) && (point < 0 || in(dy, -1000, 1000)));
     cache.clear();
     Reg r = g.regions.get(region);
     if (point < 0) {

@@ -199,7 +199,8 @@ public final class RandomRunsTest {
     int region = upTo(8) == 0 ? between(-1, 3) : 0;
     int point = between(-2, 9);
     int dx = upTo(3) == 0 ? about(-1000, 1000) : between(-90, 90);
-    int dy = upTo(3) == 0 ? about(-1000, 1000) : between(-90, 90);
+    int near = upTo(3) == 0 ? about(-1000, 1000) : between(-90, 90);
+    int dy = upTo(12) == 0 ? random.nextInt() : near;
     compare("setDelta " + g + " " + region + " " + point + " " + dx + " " + dy,
         () -> naive.setDelta(g, region, point, dx, dy),
         () -> forge.setDelta(g, region, point, dx, dy));

@@ -59,6 +59,9 @@ public final class VariationTest {
     Check.raises("dy -1001", Check.ARGUMENT, () -> font.setDelta(0, 0, 0, 0, -1001));
     Check.raises("advance 1001", Check.ARGUMENT, () -> font.setDelta(0, 0, -1, 1001, 0));
     Check.same("the advance does not count", font.setDelta(0, 0, -1, 1000, -1000), 0);
+    Check.same("dy 1001 of the advance", font.setDelta(0, 0, -1, 0, 1001), 0);
+    Check.same("no dy is too low", font.setDelta(0, 0, -1, 0, Integer.MIN_VALUE), 0);
+    Check.raises("dx -1001 and dy", Check.ARGUMENT, () -> font.setDelta(0, 0, -1, -1001, 5000));
     Check.same("one told", font.setDelta(0, 0, 1, -1000, 1000), 1);
     Check.same("told again", font.setDelta(0, 0, 1, 5, 5), 1);
     Check.same("told 0", font.setDelta(0, 0, 0, 0, 0), 2);
@@ -196,7 +199,7 @@ public final class VariationTest {
     font.addRegion(0, 100, 0);
     font.setAxis(0, 50);
     Check.same("no delta", font.advance(0, false), 160);
-    font.setDelta(0, 0, -1, -401, 77);
+    font.setDelta(0, 0, -1, -401, 77777);
     // 100 and floor(-200.5 + 0.5) units.
     Check.same("below 0", font.advance(0, false), -160);
     Check.same("end x", font.pointX(0, 2, false), -160);
