@@ -15,6 +15,7 @@ public final class DrawingTest {
     thinStemsAtBorders();
     thinBars();
     crossingsAtOnce();
+    crossingsBetween1024ths();
     rowOf();
     inkShare();
     Check.end("DrawingTest");
@@ -226,6 +227,18 @@ public final class DrawingTest {
     Fonts.glyph(font, 0, 25, 0, 25, 40, 26, 40);
     // At the height 32 from 40 to 41: 5/8 of a pixel's 64th is told apart in 1024ths.
     Check.same("less than a 64th", byRules(font, 1), "; 8.8; 8.8");
+  }
+
+  /** The slanted line goes through the row of centres 8 at 512 * 1122 / 1120 = 512.9. */
+  private static void crossingsBetween1024ths() {
+    HintForge font = Fonts.atSize25();
+    Fonts.glyph(font, 0, 0, 0, 701, 700, 0, 700);
+    Check.same("a line just right of the centre", font.rowOf(0, 8), 108);
+    Check.same("is found both ways", font.isWound(0), true);
+    Fonts.glyph(font, 0, 0, 0, 701, 700, 820, 700);
+    Check.same("a centre just left of the stem", font.rowOf(1, 8), 0);
+    font.setRule(1);
+    Check.same("rounded down, the stem has the centre", font.rowOf(1, 8), 0);
   }
 
   private static void rowOf() {
