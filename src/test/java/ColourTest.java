@@ -8,6 +8,7 @@ public final class ColourTest {
     colourAt();
     asksFromTheLast();
     tooManyPoints();
+    coveredAsDrawn();
     Check.end("ColourTest");
   }
 
@@ -83,5 +84,35 @@ public final class ColourTest {
     font.pixels(0);
     Check.same("nor was it kept", font.drawings(), 2);
     Check.raises("column ahead of points", Check.INDEX, () -> font.colourAt(2, 48, 8));
+  }
+
+  /** Four layers, the first one of too many points: what covers it is hinted, as it is drawn. */
+  private static void coveredAsDrawn() {
+    HintForge font = Fonts.atSize25();
+    Fonts.box(font, 0, 0, 40, 40);
+    font.addGlyph(0);
+    for (int i = 0; i < 40; i++) {
+      font.addPoint(1, i, i, true);
+    }
+    font.addGlyph(0);
+    font.addPart(2, 1, 0, 0, 64);
+    font.addPart(2, 1, 0, 0, 64);
+    font.addColour(0, 2, 1);
+    font.addColour(0, 0, 2);
+    Fonts.program(font, 0, "p0 H p64 D p1 H p64 D p2 H p64 D p3 H p64 D");
+    Check.same("covered where it is moved to", font.colourAt(0, 9, 8), 2);
+    Check.raises("not where it was", Check.UNSUPPORTED, () -> font.colourAt(0, 8, 8));
+    font.setHinting(false);
+    Check.same("covered where it was", font.colourAt(0, 8, 8), 2);
+    Check.raises("not where it is moved to", Check.UNSUPPORTED, () -> font.colourAt(0, 9, 8));
+    font.addColour(0, 1, 3);
+    font.addColour(0, 1, 4);
+    Check.same("covered by the second one of four", font.colourAt(0, 8, 8), 2);
+    Check.raises("covered by none of four", Check.UNSUPPORTED, () -> font.colourAt(0, 9, 8));
+    font.addColour(1, 0, 5);
+    font.addColour(1, 0, 6);
+    font.addColour(1, 0, 7);
+    font.addColour(1, 2, 8);
+    Check.raises("too many at once", Check.UNSUPPORTED, () -> font.colourAt(1, 8, 8));
   }
 }

@@ -49,6 +49,8 @@ public final class DrawingEdgesTest {
     HintForge font = Fonts.atSize25();
     Fonts.glyph(font, 0, units);
     Check.same(what, byRules(font, 0), due);
+    String last = due.substring(due.lastIndexOf(';') + 1).trim();
+    Check.same(what + " counted", font.pixels(0), last.isEmpty() ? 0 : last.split(" ").length);
     Check.same(what + " is wound", font.isWound(0), true);
   }
 
@@ -345,6 +347,13 @@ public final class DrawingEdgesTest {
     Fonts.glyph(font, 0, box(22, 0, 30, 40));
     Fonts.contour(font, 4, 22, 0, 30, 0, 30, 40, 22, 40);
     Check.same("one upon the other", byRules(font, 4), "; ; ");
+    Fonts.glyph(font, 0, box(22, 0, 28, 40));
+    Fonts.contour(font, 5, box(22, 0, 59, 40));
+    // The sum is 2 at 22, 1 at 28 and 0 at 59: the middle is 64.5, right of 64.
+    Check.same("two from the same x on", byRules(font, 5), "; 9.8; 9.8");
+    Fonts.glyph(font, 0, box(21, 0, 58, 40));
+    Fonts.contour(font, 6, box(52, 0, 58, 40));
+    Check.same("two up to the same x", byRules(font, 6), "; 8.8; 8.8");
   }
 
   /** In a column the lines to the right count 1: what cancels in rows does so in columns. */
@@ -372,11 +381,20 @@ public final class DrawingEdgesTest {
     Fonts.glyph(font, 0, 0, 0, 701, 700, 820, 700);
     // Its left edge goes through the lowest row at 512.9, which is no more right of the centre.
     Check.same("rounded down to a centre", font.rowOf(0, 8), 0);
+    Fonts.glyph(font, 0, -320, 0, 381, 700, 500, 700);
+    Check.same("rounded down to the first centre", font.rowOf(1, 8), 0);
     // Its lower edge goes through the column 8 at 512.9, its upper one at 608: it has the centre,
     // which is right of 511.09, the edge in the row 8.
     Fonts.glyph(font, 0, -200, 0, -200, 24, 700, 24, 700, 701, 0, 0);
     font.setRule(2);
-    Check.same("rounded down in a column", font.pixel(1, 8, 8), false);
-    Check.same("left of it", font.pixel(1, 7, 8), true);
+    Check.same("rounded down in a column", font.pixel(2, 8, 8), false);
+    Check.same("left of it", font.pixel(2, 7, 8), true);
+    font.setSize(12);
+    // In 64ths, from 63 to the line from (65, 0) to (67, 1024): from 1008 to 1041 in 1024ths.
+    Fonts.glyph(font, 0, 82, 0, 82, 1333, 87, 1333, 84, 0);
+    Check.same("its points", Fonts.xs(font, 3, false) + ", " + font.pointY(3, 1, false), "63 63 67 65 0 0, 1024");
+    Check.same("a middle half a 1024th right of 1024", font.pixel(3, 9, 8) + " " + font.pixel(3, 8, 8), "true false");
+    Fonts.glyph(font, 0, 82, 0, 82, 1333, 84, 1333, 84, 0);
+    Check.same("a middle at 1024", font.pixel(4, 9, 8) + " " + font.pixel(4, 8, 8), "false true");
   }
 }

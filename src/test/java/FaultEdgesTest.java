@@ -342,6 +342,8 @@ public final class FaultEdgesTest {
     Check.same("i in the zone 0", faultOf(font, number + "0 + w R5 p0 Z p7 p0 i"), '-');
     Check.same("i in the zone 0, further", faultOf(font, number + "1 + w R5 p0 Z p7 p0 i"), 'a');
     Check.same("i in the zone 0, in y", faultOf(font, "p1 M p1 F " + number + "1 + w R5 p0 Z p7 p0 i"), 'a');
+    // Rounded to the grid it would be back at a million.
+    Check.same("i in the zone 0, put outside", faultOf(font, number + "9 + w p0 Z p7 p0 i"), 'a');
     Check.same("i, too far to be put", faultOf(font, number + "500 + w p0 p0 i"), '-');
   }
 

@@ -1,10 +1,17 @@
 import java.io.IOException;
+import java.lang.reflect.Array;
 import java.lang.reflect.Field;
 import java.lang.reflect.Method;
 import java.lang.reflect.Modifier;
 import java.nio.file.Files;
 import java.nio.file.Path;
+import java.util.ArrayDeque;
+import java.util.ArrayList;
+import java.util.IdentityHashMap;
+import java.util.List;
+import java.util.Map;
 import java.util.Set;
+import java.util.TreeMap;
 import java.util.TreeSet;
 import java.util.regex.Matcher;
 import java.util.regex.Pattern;
@@ -34,6 +41,10 @@ public final class LanguageTest {
     face();
     classes();
     lengths(text);
+    types();
+    onlyListed(bare);
+    callsAreNotDeep(bare);
+    room();
     Check.end("LanguageTest");
   }
 
@@ -92,6 +103,160 @@ public final class LanguageTest {
         Check.same(method + " has few parameters", method.getParameterCount() <= 7, true);
       }
     }
+  }
+
+  /** Rule 3: numbers, own classes and String, their rows, and two dimensions of numbers alone. */
+  private static void types() {
+    for (Class<?> inside : allClasses()) {
+      for (Field field : inside.getDeclaredFields()) {
+        Check.same(field + " is of a type that is listed", isListed(field.getType()), true);
+        boolean isStaticRow = Modifier.isStatic(field.getModifiers()) && field.getType().isArray();
+        Check.same(field + " is no row of another kind", !isStaticRow || field.getType() == int[].class, true);
+      }
+      for (Method method : inside.getDeclaredMethods()) {
+        Check.same(method + " answers a type that is listed", isListed(method.getReturnType()), true);
+        for (Class<?> parameter : method.getParameterTypes()) {
+          Check.same(method + " takes types that are listed", isListed(parameter), true);
+        }
+        boolean isRecursive = method.getName().equals("collect");
+        Check.same(method + " recurs as a private static one",
+            !isRecursive || Modifier.isPrivate(method.getModifiers()) && Modifier.isStatic(method.getModifiers()), true);
+      }
+    }
+  }
+
+  private static boolean isListed(Class<?> type) {
+    if (type.isArray() && type.getComponentType().isArray()) {
+      return type.getComponentType().getComponentType().isPrimitive();
+    }
+    Class<?> one = type.isArray() ? type.getComponentType() : type;
+    return one.isPrimitive() || one == String.class || allClasses().contains(one);
+  }
+
+  private static Set<String> found(String bare, String pattern) {
+    Set<String> all = new TreeSet<>();
+    Matcher each = Pattern.compile(pattern).matcher(bare);
+    while (each.find()) {
+      all.add(each.group(1));
+    }
+    return all;
+  }
+
+  /** Rules 4, 6 and 10: what is called of the library, what is thrown, and no text joined by +. */
+  private static void onlyListed(String bare) {
+    Set<String> library = found(bare, "\\b((?:Math|Long|Integer|Arrays|System)\\.\\w+)");
+    library.removeAll(Set.of("Math.floorDiv", "Math.max", "Math.min", "Math.abs", "Long.bitCount",
+        "Arrays.fill", "System.arraycopy"));
+    Check.same("of the library", library.toString(), "[]");
+    Set<String> thrown = found(bare, "throw new (\\w+)\\(\"[^\"]*\"\\);");
+    thrown.removeAll(Set.of("IllegalStateException", "IllegalArgumentException", "ArithmeticException",
+        "IndexOutOfBoundsException", "UnsupportedOperationException", "NoSuchElementException"));
+    Check.same("thrown", thrown.toString(), "[]");
+    Check.same("all throws are of a written text", found(bare, "(throw (?!new \\w+\\(\"[^\"]*\"\\);).*)").toString(), "[]");
+    Check.same("no text is joined by +", found(bare, "(\"\\s*\\+|\\+\\s*\")").toString(), "[]");
+    Check.same("each fill is of numbers", found(bare, "Arrays\\.fill\\((\\w+)").toString(),
+        "[keys, references, storage, totals]");
+  }
+
+  /** Rule 11: eight calls deep at most, by the names of the methods, the one of the face included. */
+  private static void callsAreNotDeep(String bare) {
+    Map<String, Set<String>> calls = new TreeMap<>();
+    Matcher head = Pattern.compile("(?m)^ {2,4}(?:public |private |static |final )*[\\w\\[\\]]+ (\\w+)\\([^;]*?\\{$").matcher(bare);
+    int from = -1;
+    String name = null;
+    while (head.find()) {
+      if (name != null) {
+        calls.computeIfAbsent(name, k -> new TreeSet<>()).addAll(found(bare.substring(from, head.start()), "(\\w+)\\("));
+      }
+      name = head.group(1);
+      from = head.end();
+    }
+    calls.computeIfAbsent(name, k -> new TreeSet<>()).addAll(found(bare.substring(from), "(\\w+)\\("));
+    calls.get("collect").remove("collect");
+    Check.same("methods are found", calls.keySet().containsAll(Set.of("pixel", "moveBy", "isOutside", "take")), true);
+    int deepest = 0;
+    for (String each : calls.keySet()) {
+      deepest = Math.max(deepest, depth(each, calls, 0));
+    }
+    Check.same("calls are " + deepest + " deep", deepest <= 8, true);
+  }
+
+  /** Rule 12: what an object holds after calls of all kinds is what it was made with. */
+  private static void room() {
+    HintForge font = Fonts.atSize25();
+    String before = held(font);
+    Fonts.box(font, 0, 0, 100, 100);
+    Fonts.program(font, 0, "p0 m p1 r p0 I C0");
+    Fonts.function(font, "R1");
+    font.addRegion(0, 100, 0);
+    font.setDelta(0, 0, 0, 10, 10);
+    font.addColour(0, 0, 1);
+    font.keep(0, true);
+    font.type(0);
+    for (int size = 4; size <= 32; size++) {
+      font.setSize(size);
+      font.pixels(0);
+      font.isSame(0);
+      font.width();
+      font.colourAt(0, 8, 8);
+    }
+    Check.same("objects and elements", held(font), before);
+    String[] counts = before.split(" ");
+    Check.same("few objects", Integer.parseInt(counts[0]) < 2000, true);
+    Check.same("few fields and elements", Integer.parseInt(counts[1]) < 60000, true);
+  }
+
+  /** How many objects and rows, and how many fields and elements, can be reached from an object. */
+  private static String held(Object root) {
+    Map<Object, Boolean> seen = new IdentityHashMap<>();
+    ArrayDeque<Object> open = new ArrayDeque<>();
+    open.add(root);
+    int fields = 0;
+    while (!open.isEmpty()) {
+      Object one = open.poll();
+      if (seen.put(one, true) != null) {
+        continue;
+      }
+      for (Object inside : insideOf(one)) {
+        fields++;
+        if (inside != null && (inside.getClass().isArray() || allClasses().contains(inside.getClass()))) {
+          open.add(inside);
+        }
+      }
+    }
+    return seen.size() + " " + fields;
+  }
+
+  private static List<Object> insideOf(Object one) {
+    List<Object> all = new ArrayList<>();
+    if (one.getClass().isArray()) {
+      for (int i = 0; i < Array.getLength(one); i++) {
+        all.add(Array.get(one, i));
+      }
+      return all;
+    }
+    for (Field field : one.getClass().getDeclaredFields()) {
+      if (!Modifier.isStatic(field.getModifiers())) {
+        field.setAccessible(true);
+        try {
+          all.add(field.get(one));
+        } catch (IllegalAccessException e) {
+          Check.same(field + " can be read", false, true);
+        }
+      }
+    }
+    return all;
+  }
+
+  private static int depth(String name, Map<String, Set<String>> calls, int above) {
+    if (above > 40 || !calls.containsKey(name)) {
+      return above > 40 ? 40 : 0;
+    }
+    int deepest = 0;
+    for (String called : calls.get(name)) {
+      deepest = Math.max(deepest, depth(called, calls, above + 1));
+    }
+    return 1 + deepest;
   }
 
   private static void lengths(String text) {

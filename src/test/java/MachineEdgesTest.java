@@ -111,6 +111,9 @@ public final class MachineEdgesTest {
     Check.same("3 on 2", value(font, "p1 H p3 D p2 M p1 G"), 2);
     Check.same("5 on 2", value(font, "p1 H p5 D p2 M p1 G"), 4);
     Check.same("-5 on 2", value(font, "p1 H p-5 D p2 M p1 G"), -4);
+    // 11585 * -705 / 16384 is -498.50006.
+    Check.same("-705 on 2", value(font, "p1 H p-705 D p2 M p1 G"), -499);
+    Check.same("705 on 2", value(font, "p1 H p705 D p2 M p1 G"), 499);
     Check.same("99999 on 3", value(font, "p1 H p99999 D p3 M p1 G"), 70709);
     Check.same("99999 in y on 3", value(font, "p1 M p1 F p1 H p99999 D p3 M p1 G"), -70709);
     Check.same("99999 in y on 2", value(font, "p1 M p1 F p1 H p99999 D p2 M p1 G"), 70709);
@@ -298,9 +301,9 @@ public final class MachineEdgesTest {
     // Between 8, now 10, and 16, now 20: 24 goes to 10 + 16 * 10 / 8.
     points(font, moves + "p0 S0 p1 S1 p2 S2 p3 b", "1 10 20 30 32 64 0 0");
     // m sets 0 and 1: k by 2; b between 8 and 16; the reference 2 stays.
-    points(font, moves + "p2 S0 p2 S1 p2 S2 p1 m p3 k p4 b", "1 10 20 26 40 64 0 0");
+    points(font, moves + "p2 S0 p0 S1 p2 S2 p1 m p3 k p4 b", "1 10 20 26 40 64 0 0");
     // i sets 0 and 1, too: 64 is 54 from 10, so that 8 goes to 64, by 56.
-    points(font, moves + "p2 S0 p2 S1 p2 S2 p1 p0 i p3 k p4 b", "1 64 20 80 -68 64 0 0");
+    points(font, moves + "p2 S0 p0 S1 p2 S2 p1 p0 i p3 k p4 b", "1 64 20 80 -68 64 0 0");
     // r sets 1 to the reference 0, 2 to its point, and leaves 0: 16 is 64 from 2, and 24 between.
     points(font, moves + "p0 S0 p4 S1 p4 S2 p2 r p3 b p4 k", "1 10 65 97 33 64 0 0");
     points(font, moves + "p2 S0 p3 k p3 l p3 S1 p3 S2 p4 k", "1 10 20 20 36 64 0 0");
