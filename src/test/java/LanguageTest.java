@@ -39,6 +39,7 @@ public final class LanguageTest {
     Check.same("signs from 1 to 127", text.chars().allMatch(c -> c >= 1 && c <= 127), true);
     imports(bare);
     face();
+    faceOfTheDocument();
     classes();
     lengths(text);
     types();
@@ -77,6 +78,43 @@ public final class LanguageTest {
     for (Field field : HintForge.class.getDeclaredFields()) {
       Check.same(field + " is private", Modifier.isPrivate(field.getModifiers()), true);
     }
+  }
+
+  /** Each row of the document's face is a method with these types and exceptions, in this order. */
+  private static void faceOfTheDocument() throws IOException {
+    String document = Files.readString(Path.of("../shared/DOC.md"));
+    String told = document.substring(document.indexOf("```java"), document.lastIndexOf("```"));
+    Set<String> due = found(told, "(?m)^    public (\\w+ \\w+\\([^\\n]*);$");
+    Set<String> got = new TreeSet<>();
+    for (Method method : HintForge.class.getDeclaredMethods()) {
+      if (Modifier.isPublic(method.getModifiers())) {
+        got.add(rowOfTheFace(method));
+      }
+    }
+    Set<String> plain = new TreeSet<>();
+    for (String row : due) {
+      plain.add(row.replaceAll("\\b(int|boolean|char) \\w+(?=[,)])", "$1"));
+    }
+    Check.same("the face", got.toString(), plain.toString());
+    Check.same("its methods", plain.size(), 43);
+    Check.same("public constructors", HintForge.class.getConstructors().length, 1);
+    Check.same("public fields", HintForge.class.getFields().length, 0);
+    Check.same("public and final", Modifier.isFinal(HintForge.class.getModifiers()), true);
+  }
+
+  private static String rowOfTheFace(Method method) {
+    StringBuilder row = new StringBuilder();
+    row.append(method.getReturnType().getSimpleName()).append(' ').append(method.getName()).append('(');
+    for (Class<?> parameter : method.getParameterTypes()) {
+      row.append(row.charAt(row.length() - 1) == '(' ? "" : ", ").append(parameter.getSimpleName());
+    }
+    row.append(')');
+    String before = " throws ";
+    for (Class<?> thrown : method.getExceptionTypes()) {
+      row.append(before).append(thrown.getSimpleName());
+      before = ", ";
+    }
+    return row.toString();
   }
 
   private static Set<Class<?>> allClasses() {
